@@ -584,8 +584,8 @@ public final class ElevatorLedger {
                 case NUMBER: return splitNumber(at);
                 case QUOTED: return splitQuoted(at);
                 case TABLE_NAME:
-                case FIRST_NAME:
-                case JOINED_NAME: return add(kind, text[at + 1] - '0', at, at + 2);
+                case FIRST_NAME: return add(kind, text[at + 1] - '0', at, at + 2);
+                case JOINED_NAME: return add(kind, JOINED_SIDE + text[at + 1] - '0', at, at + 2);
                 case FROM: return splitWord(at);
                 case PLUS: return splitSign(at);
                 default: return add(kind, 0, at, at);
@@ -783,11 +783,16 @@ public final class ElevatorLedger {
         }
 
         private boolean isTogether(int item) {
-            return itemKinds[item] >= COUNT;
+            return item >= 0 && item < itemCount && itemKinds[item] >= COUNT;
         }
 
         private boolean isGrouped() {
             return groups[0] >= 0;
+        }
+
+        /** The answer has just one row, also of no PAIRS. */
+        private boolean isOneRow() {
+            return isTogether(0) && !isGrouped();
         }
     }
 
@@ -855,12 +860,14 @@ public final class ElevatorLedger {
 
         private boolean countNode() {
             nodes++;
-            return nodes <= MOST_NODES || refuse();
+            flaw = nodes > MOST_NODES ? ONE_MORE : flaw;
+            return nodes <= MOST_NODES;
         }
 
         private boolean goIn() {
             depth++;
-            return depth <= MOST_DEPTH || refuse();
+            flaw = depth > MOST_DEPTH ? ONE_MORE : flaw;
+            return depth <= MOST_DEPTH;
         }
 
         private boolean goOut() {
@@ -884,7 +891,7 @@ public final class ElevatorLedger {
             if (!readKnown(TABLE_NAME) || !take(ON)) {
                 return false;
             }
-            plan.onFirst = columnNow();
+            plan.onFirst = numberNow();
             if (!readKnown(FIRST_NAME)) {
                 return false;
             }
@@ -892,7 +899,7 @@ public final class ElevatorLedger {
             if (!take(EQUAL)) {
                 return false;
             }
-            plan.onJoined = columnNow();
+            plan.onJoined = numberNow();
             if (!readKnown(JOINED_NAME)) {
                 return false;
             }
@@ -900,16 +907,12 @@ public final class ElevatorLedger {
             return true;
         }
 
-        private int columnNow() {
-            return kindNow() == JOINED_NAME ? JOINED_SIDE + numberNow() : numberNow();
-        }
-
         /** A NAME that only must be there. */
         private boolean readKnown(int kind) {
             if (kindNow() != kind) {
                 return false;
             }
-            plan.steps.add(kind == TABLE_NAME ? TABLE_NAME : KNOWN, columnNow(), placeNow());
+            plan.steps.add(kind == TABLE_NAME ? TABLE_NAME : KNOWN, numberNow(), placeNow());
             at++;
             return true;
         }
@@ -986,14 +989,12 @@ public final class ElevatorLedger {
             if (kindNow() == OPEN) {
                 return goIn() && take(OPEN) && readCondition(OR) && take(CLOSE) && goOut();
             }
-            return readSum(PLUS) && readComparison();
-        }
-
-        /** What stands behind the first sum of a comparison. */
-        private boolean readComparison() {
+            if (!readSum(PLUS)) {
+                return false;
+            }
             int kind = kindNow();
             int place = placeNow();
-            if (kind != IS && (kind < EQUAL || kind > AT_LEAST) || !countNode()) {
+            if (!canCompare(kind) || !countNode()) {
                 return false;
             }
             at++;
@@ -1002,6 +1003,10 @@ public final class ElevatorLedger {
             }
             plan.steps.add(kind, 0, place);
             return true;
+        }
+
+        private static boolean canCompare(int kind) {
+            return kind == IS || kind >= EQUAL && kind <= AT_LEAST;
         }
 
         /** Parts with + - between (from PLUS on), or with * / % (from TIMES on); the parts of the first are the others. */
@@ -1055,7 +1060,7 @@ public final class ElevatorLedger {
             if (!countNode()) {
                 return false;
             }
-            plan.steps.add(COLUMN, columnNow(), placeNow());
+            plan.steps.add(COLUMN, numberNow(), placeNow());
             at++;
             return true;
         }
@@ -1116,7 +1121,7 @@ public final class ElevatorLedger {
                 return true;
             }
             for (int i = 0; i < MOST_GROUPS; i++) {
-                plan.groups[i] = columnNow();
+                plan.groups[i] = numberNow();
                 if (!readKnown(kindNow() == JOINED_NAME ? JOINED_NAME : FIRST_NAME)) {
                     return false;
                 }
@@ -1150,7 +1155,7 @@ public final class ElevatorLedger {
             int begin = at;
             boolean isTogether = kind >= COUNT && kind <= MOST;
             plan.itemKinds[i] = isTogether ? kind : PLAIN;
-            plan.itemColumns[i] = columnNow();
+            plan.itemColumns[i] = numberNow();
             plan.itemFrom[i] = plan.steps.size;
             if (isTogether ? !readTogether(kind) : !readSum(PLUS)) {
                 return false;
@@ -1268,7 +1273,7 @@ public final class ElevatorLedger {
 
         private int flawOfAct(Plan plan, int act, int arg) {
             if (act == CONSTANT) {
-                push(plan.constantSorts[arg]);
+                push(arg < 0 || arg >= plan.constantCount ? WHOLE : plan.constantSorts[arg]);
                 return 0;
             }
             if (act == LOOK_UP) {
@@ -1313,6 +1318,9 @@ public final class ElevatorLedger {
         }
 
         private int flawOfItem(Plan plan, int item) {
+            if (item < 0 || item >= plan.itemCount) {
+                return UNFIT;
+            }
             int kind = plan.itemKinds[item];
             int sort = kind == COUNT ? WHOLE : pop();
             plan.itemSorts[item] = sort;
@@ -1365,9 +1373,8 @@ public final class ElevatorLedger {
 
         private boolean uses(int table, int column) {
             for (int i = 0; i < kinds.length; i++) {
-                boolean isOfTable = kinds[i] == FIRST_NAME && plan.first == table
-                        || kinds[i] == JOINED_NAME && plan.joined == table;
-                if (isOfTable && values[i] == column) {
+                if (kinds[i] == FIRST_NAME && plan.first == table && values[i] == column
+                        || kinds[i] == JOINED_NAME && plan.joined == table && values[i] == JOINED_SIDE + column) {
                     return true;
                 }
             }
@@ -1647,9 +1654,10 @@ public final class ElevatorLedger {
                 return;
             }
             int i = height - 1;
-            if (act == NEGATE) {
-                wholes[i] = -wholes[i];
+            if (act == NEGATE && sorts[i] == REAL) {
                 reals[i] = -1.0 * reals[i];
+            } else if (act == NEGATE) {
+                wholes[i] = -wholes[i];
             } else if (act == NOT) {
                 wholes[i] = 1 - wholes[i];
             } else if (act == IS) {
@@ -1667,49 +1675,44 @@ public final class ElevatorLedger {
         private Answer into;
         private Table first;
         private Table joined;
-        private boolean isLeaping;
         // The first PAIR of each group, whose VALUES tell the group.
         private final int[] groupRows = new int[MOST_ANSWER_ROWS];
         private final int[] groupOthers = new int[MOST_ANSWER_ROWS];
 
         private void answer(Question its, Table[] tables, Answer answer, boolean byCode) {
+            prepare(its, tables, answer);
+            int rows = first == null ? 0 : first.rowCount;
+            int others = joined == null ? 1 : joined.rowCount;
+            boolean goesOn = true;
+            for (int row = 0; row < rows && goesOn; row++) {
+                for (int other = 0; other < others && goesOn; other++) {
+                    if (joined != null && !isPair(row, other)) {
+                        continue;
+                    }
+                    into.visited++;
+                    machine.standAt(row, other);
+                    int said = conditionSays(row);
+                    goesOn = said != ENDED && (said != CHOSEN || takeItems(row, other));
+                    if (said == FALSE_AT_ONCE && byCode) {
+                        break;
+                    }
+                }
+            }
+            if (goesOn) {
+                into.finish(plan.orderItem, plan.isDown, plan.top);
+            }
+        }
+
+        private void prepare(Question its, Table[] tables, Answer answer) {
             plan = its.form.plan;
             into = answer;
-            isLeaping = byCode;
             first = Checker.tableOf(tables, plan.first);
             joined = Checker.tableOf(tables, plan.joined);
             machine.prepare(its, first, joined);
             into.begin(plan);
-            if (plan.isTogether(0) && !plan.isGrouped()) {
+            if (plan.isOneRow()) {
                 newRow(0, 0);
             }
-            int rows = first == null ? 0 : first.rowCount;
-            for (int row = 0; row < rows; row++) {
-                if (!lookAtRow(row)) {
-                    return;
-                }
-            }
-            into.finish(plan.orderItem, plan.isDown, plan.top);
-        }
-
-        /** Whether the question goes on behind that ROW. */
-        private boolean lookAtRow(int row) {
-            int others = joined == null ? 1 : joined.rowCount;
-            for (int other = 0; other < others; other++) {
-                if (joined != null && !isPair(row, other)) {
-                    continue;
-                }
-                into.visited++;
-                machine.standAt(row, other);
-                int said = conditionSays(row);
-                if (said == ENDED || said == CHOSEN && !takeItems(row, other)) {
-                    return false;
-                }
-                if (said == FALSE_AT_ONCE && isLeaping) {
-                    return true;
-                }
-            }
-            return true;
         }
 
         private boolean isPair(int row, int other) {
@@ -1740,7 +1743,7 @@ public final class ElevatorLedger {
         }
 
         private boolean takeItems(int row, int other) {
-            int target = plan.isTogether(0) && !plan.isGrouped() ? 0 : plan.isGrouped() ? groupOf(row, other) : -1;
+            int target = plan.isOneRow() ? 0 : plan.isGrouped() ? groupOf(row, other) : -1;
             if (target < 0) {
                 target = newRow(row, other);
             }
@@ -1776,6 +1779,7 @@ public final class ElevatorLedger {
             groupOthers[target] = other;
             for (int i = 0; i < plan.itemCount; i++) {
                 into.theres[target * MOST_ITEMS + i] = plan.itemKinds[i] == COUNT;
+                into.wholes[target * MOST_ITEMS + i] = 0;
             }
             return target;
         }
@@ -1888,7 +1892,6 @@ public final class ElevatorLedger {
                 return -1;
             }
             order[rowCount] = rowCount;
-            Arrays.fill(wholes, rowCount * MOST_ITEMS, (rowCount + 1) * MOST_ITEMS, 0L);
             rowCount++;
             return rowCount - 1;
         }
