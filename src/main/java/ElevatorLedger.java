@@ -319,13 +319,13 @@ public final class ElevatorLedger {
 
     public long cell(int which, int r, int c) {
         Answer answer = answerOf(which);
-        int place = answer == null ? -1 : answer.placeOf(r, c);
+        int place = answer == null ? -1 : answer.slotOf(r, c);
         return answer == null || place < 0 ? NO : answer.told(place, c);
     }
 
     public int isMissing(int which, int r, int c) {
         Answer answer = answerOf(which);
-        int place = answer == null ? -1 : answer.placeOf(r, c);
+        int place = answer == null ? -1 : answer.slotOf(r, c);
         return answer == null || place < 0 ? BAD : toNumber(!answer.theres[place]);
     }
 
@@ -584,15 +584,15 @@ public final class ElevatorLedger {
                 case NUMBER: return splitNumber(at);
                 case QUOTED: return splitQuoted(at);
                 case TABLE_NAME:
-                case FIRST_NAME: return add(kind, text[at + 1] - '0', at, at + 2);
-                case JOINED_NAME: return add(kind, JOINED_SIDE + text[at + 1] - '0', at, at + 2);
+                case FIRST_NAME: return addToken(kind, text[at + 1] - '0', at, at + 2);
+                case JOINED_NAME: return addToken(kind, JOINED_SIDE + text[at + 1] - '0', at, at + 2);
                 case FROM: return splitWord(at);
                 case PLUS: return splitSign(at);
-                default: return add(kind, 0, at, at);
+                default: return addToken(kind, 0, at, at);
             }
         }
 
-        private int add(int kind, long v, int place, int behind) {
+        private int addToken(int kind, long v, int place, int behind) {
             if (size <= MOST_BYTES) {
                 kinds[size] = kind;
                 values[size] = v;
@@ -607,33 +607,33 @@ public final class ElevatorLedger {
             if (isDigit(point + 1) && text[point] == '.') {
                 return splitDecimal(at, point);
             }
-            return point - at > 15 ? add(NO_TOKEN, 0, at, at) : add(NUMBER, digits(at, point), at, point);
+            return point - at > 15 ? addToken(NO_TOKEN, 0, at, at) : addToken(NUMBER, digits(at, point), at, point);
         }
 
         /** Thousandths are exact, and what constantOf() tells. */
         private int splitDecimal(int at, int point) {
             int behind = behindDigits(point + 1);
             if (point - at > 9 || behind - point > 4) {
-                return add(NO_TOKEN, 0, at, at);
+                return addToken(NO_TOKEN, 0, at, at);
             }
             long v = digits(at, point);
             for (int i = point + 1; i < point + 4; i++) {
                 v = v * 10 + (i < behind ? text[i] - '0' : 0);
             }
-            return add(DECIMAL, v, at, behind);
+            return addToken(DECIMAL, v, at, behind);
         }
 
         private int splitQuoted(int at) {
             int close = behindLetters(at + 1);
             int letters = close - at - 1;
             if (close >= length || text[close] != '\'' || letters > LETTERS) {
-                return add(NO_TOKEN, 0, at, at);
+                return addToken(NO_TOKEN, 0, at, at);
             }
             long v = 0;
             for (int i = at + 1; i <= at + LETTERS; i++) {
                 v = (v << LETTER_BITS) + (i < close ? text[i] - 'a' + 1 : 0);
             }
-            return add(QUOTED, v, at, close + 1);
+            return addToken(QUOTED, v, at, close + 1);
         }
 
         private int splitWord(int at) {
@@ -645,12 +645,12 @@ public final class ElevatorLedger {
                     continue;
                 }
                 if (i - begin == behind - at && isWord(begin, at, behind)) {
-                    return add(kind, 0, at, behind);
+                    return addToken(kind, 0, at, behind);
                 }
                 kind++;
                 begin = i + 1;
             }
-            return add(NO_TOKEN, 0, at, at);
+            return addToken(NO_TOKEN, 0, at, at);
         }
 
         private boolean isWord(int begin, int at, int behind) {
@@ -666,15 +666,15 @@ public final class ElevatorLedger {
             int kind = PLUS + SIGNS.indexOf(text[at]);
             char next = at + 1 < length ? text[at + 1] : ' ';
             if (kind == LESS && next == '>') {
-                return add(UNEQUAL, 0, at, at + 2);
+                return addToken(UNEQUAL, 0, at, at + 2);
             }
             if (kind == LESS && next == '=') {
-                return add(AT_MOST, 0, at, at + 2);
+                return addToken(AT_MOST, 0, at, at + 2);
             }
             if (kind == MORE && next == '=') {
-                return add(AT_LEAST, 0, at, at + 2);
+                return addToken(AT_LEAST, 0, at, at + 2);
             }
-            return add(kind, 0, at, at + 1);
+            return addToken(kind, 0, at, at + 1);
         }
 
         private long digits(int from, int to) {
@@ -1080,7 +1080,7 @@ public final class ElevatorLedger {
                 return false;
             }
             int lookUp = kind == LOOK ? numberNow() : 0;
-            if (kind == LOOK && !readLookUp() || !readSum(PLUS) || !take(CLOSE)) {
+            if (kind == LOOK && !(readLookUp() && take(COMMA)) || !readSum(PLUS) || !take(CLOSE)) {
                 return false;
             }
             plan.steps.add(kind, lookUp, place);
@@ -1093,7 +1093,7 @@ public final class ElevatorLedger {
             }
             plan.steps.add(LOOK_UP, numberNow(), placeNow());
             at++;
-            return take(COMMA);
+            return true;
         }
 
         private boolean readConstant(int kind) {
@@ -1234,15 +1234,15 @@ public final class ElevatorLedger {
                 return tableOf(tables, arg) == null ? NOT_THERE : 0;
             }
             if (act == ON) {
-                int sort = sortOf(plan, tables, plan.onFirst);
-                return sort == REAL_COLUMN || sort != sortOf(plan, tables, plan.onJoined) ? UNFIT : 0;
+                int sort = sortIn(plan, tables, plan.onFirst);
+                return sort == REAL_COLUMN || sort != sortIn(plan, tables, plan.onJoined) ? UNFIT : 0;
             }
-            int sort = sortOf(plan, tables, arg);
+            int sort = sortIn(plan, tables, arg);
             if (sort < 0) {
                 return NOT_THERE;
             }
             if (act == COLUMN) {
-                push(sort == REAL_COLUMN ? REAL : sort == TEXT_COLUMN ? TEXT : WHOLE);
+                pushSort(sort == REAL_COLUMN ? REAL : sort == TEXT_COLUMN ? TEXT : WHOLE);
             }
             return 0;
         }
@@ -1251,19 +1251,19 @@ public final class ElevatorLedger {
             return number < 0 || number >= tables.length ? null : tables[number];
         }
 
-        private static int sortOf(Plan plan, Table[] tables, int column) {
+        private static int sortIn(Plan plan, Table[] tables, int column) {
             Table held = tableOf(tables, column >= JOINED_SIDE ? plan.joined : plan.first);
             return held == null ? -1 : held.sortOf(column >= JOINED_SIDE ? column - JOINED_SIDE : column);
         }
 
-        private void push(int sort) {
+        private void pushSort(int sort) {
             if (height < MOST_HEIGHT) {
                 sorts[height] = sort;
                 height++;
             }
         }
 
-        private int pop() {
+        private int popSort() {
             if (height < 1) {
                 return WHOLE;
             }
@@ -1273,7 +1273,7 @@ public final class ElevatorLedger {
 
         private int flawOfAct(Plan plan, int act, int arg) {
             if (act == CONSTANT) {
-                push(arg < 0 || arg >= plan.constantCount ? WHOLE : plan.constantSorts[arg]);
+                pushSort(arg < 0 || arg >= plan.constantCount ? WHOLE : plan.constantSorts[arg]);
                 return 0;
             }
             if (act == LOOK_UP) {
@@ -1286,34 +1286,34 @@ public final class ElevatorLedger {
                 return flawOfArithmetic(act);
             }
             if (act >= EQUAL && act <= AT_LEAST) {
-                boolean isRightText = pop() == TEXT;
-                boolean isLeftText = pop() == TEXT;
+                boolean isRightText = popSort() == TEXT;
+                boolean isLeftText = popSort() == TEXT;
                 return isLeftText == isRightText ? 0 : UNFIT;
             }
             if (act == IS) {
-                pop();
+                popSort();
                 return 0;
             }
             return act == NEGATE || act >= TO_INT && act <= LOOK ? flawOfCall(act) : 0;
         }
 
         private int flawOfArithmetic(int act) {
-            int right = pop();
-            int left = pop();
+            int right = popSort();
+            int left = popSort();
             if (left == TEXT || right == TEXT || act == REST && (left != WHOLE || right != WHOLE)) {
                 return UNFIT;
             }
-            push(left == REAL || right == REAL ? REAL : WHOLE);
+            pushSort(left == REAL || right == REAL ? REAL : WHOLE);
             return 0;
         }
 
         private int flawOfCall(int act) {
-            int sort = pop();
+            int sort = popSort();
             if (act == NEGATE) {
-                push(sort);
+                pushSort(sort);
                 return sort == TEXT ? UNFIT : 0;
             }
-            push(act == TO_REAL ? REAL : WHOLE);
+            pushSort(act == TO_REAL ? REAL : WHOLE);
             return sort == (act == TO_WHOLE ? REAL : WHOLE) ? 0 : UNFIT;
         }
 
@@ -1322,7 +1322,7 @@ public final class ElevatorLedger {
                 return UNFIT;
             }
             int kind = plan.itemKinds[item];
-            int sort = kind == COUNT ? WHOLE : pop();
+            int sort = kind == COUNT ? WHOLE : popSort();
             plan.itemSorts[item] = sort;
             if (kind == SUM && sort == TEXT) {
                 return UNFIT;
@@ -1680,7 +1680,7 @@ public final class ElevatorLedger {
         private final int[] groupOthers = new int[MOST_ANSWER_ROWS];
 
         private void answer(Question its, Table[] tables, Answer answer, boolean byCode) {
-            prepare(its, tables, answer);
+            makeReady(its, tables, answer);
             int rows = first == null ? 0 : first.rowCount;
             int others = joined == null ? 1 : joined.rowCount;
             boolean goesOn = true;
@@ -1703,7 +1703,7 @@ public final class ElevatorLedger {
             }
         }
 
-        private void prepare(Question its, Table[] tables, Answer answer) {
+        private void makeReady(Question its, Table[] tables, Answer answer) {
             plan = its.form.plan;
             into = answer;
             first = Checker.tableOf(tables, plan.first);
@@ -1937,7 +1937,7 @@ public final class ElevatorLedger {
         }
 
         /** Where the VALUE of row r and item c is held; -1, if there is none such. */
-        private int placeOf(int r, int c) {
+        private int slotOf(int r, int c) {
             return r < 0 || r >= rowCount || c < 0 || c >= itemCount ? -1 : order[r] * MOST_ITEMS + c;
         }
 
@@ -1955,8 +1955,8 @@ public final class ElevatorLedger {
             }
             for (int r = 0; r < rowCount; r++) {
                 for (int c = 0; c < itemCount; c++) {
-                    int mine = placeOf(r, c);
-                    int its = other.placeOf(r, c);
+                    int mine = slotOf(r, c);
+                    int its = other.slotOf(r, c);
                     if (mine < 0 || its < 0 || theres[mine] != other.theres[its]
                             || told(mine, c) != other.told(its, c)) {
                         return true;
