@@ -58,6 +58,9 @@ public final class ElevatorLedger {
     // A COLUMN of the joined TABLE is told as its number and this.
     private static final int JOINED_SIDE = 10;
 
+    // What count() is asked for.
+    private static final int COUNT_MADE = 3, COUNT_KEPT = 4, COUNT_FAILED_STARTS = 6;
+
     // What the condition says of a PAIR; FALSE_AT_ONCE: its first part is false, and has no COLUMN of the joined TABLE.
     private static final int REFUSED = 0, CHOSEN = 1, FALSE_AT_ONCE = 2, ENDED = 3;
 
@@ -366,9 +369,9 @@ public final class ElevatorLedger {
             case 0: return tableCount;
             case 1: return questionCount;
             case 2: return formCount;
-            case 3:
-            case 4:
-            case 6: return sumOverForms(what);
+            case COUNT_MADE:
+            case COUNT_KEPT:
+            case COUNT_FAILED_STARTS: return sumOverForms(what);
             case 5: return droppedCount;
             case 7: return textCount;
             default: return BAD;
@@ -448,7 +451,7 @@ public final class ElevatorLedger {
             its.failToStart();
             return false;
         }
-        if (sumOverForms(4) >= MOST_KEPT) {
+        if (sumOverForms(COUNT_KEPT) >= MOST_KEPT) {
             dropOldest();
         }
         its.start();
@@ -469,13 +472,13 @@ public final class ElevatorLedger {
         }
     }
 
-    /** The sum of what count() tells by FORMS: 3 MADE, 4 KEPT, 6 STARTS that failed. */
+    /** What count() tells that is held by FORMS. */
     private int sumOverForms(int what) {
         int sum = 0;
         for (int i = 0; i < formCount; i++) {
             Form each = forms[i];
             if (each != null) {
-                sum += what == 3 ? each.made : what == 4 ? toNumber(each.isKept) : each.failedStarts;
+                sum += what == COUNT_MADE ? each.made : what == COUNT_KEPT ? toNumber(each.isKept) : each.failedStarts;
             }
         }
         return sum;
@@ -687,7 +690,7 @@ public final class ElevatorLedger {
 
         private int behindBlanks(int from) {
             int at = from;
-            while (at < length && (text[at] == 32 || text[at] == 10)) {
+            while (at < length && (text[at] == ' ' || text[at] == '\n')) {
                 at++;
             }
             return at;

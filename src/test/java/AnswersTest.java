@@ -149,6 +149,7 @@ public final class AnswersTest {
         ElevatorLedger edges = ledger(sorts(1, 1), of(Long.MAX_VALUE, -1));
         answers(edges, "from t0 give c0 + 1 - c1, c0 * 2, {c0 + 1} / c1 + 1, {c0 + 1} % c1, -{c0 + 1} + 1",
                 of(Long.MIN_VALUE + 1, -2, Long.MIN_VALUE + 1, 0, Long.MIN_VALUE + 1));
+        answers(edges, "from t0 where c0 > c0 - 1 and c0 - 1 < c0 and c0 <> c0 - 1 and not c0 - 1 >= c0 give c1", of(-1));
         int least = Due.read(edges, "from t0 give c0 + 1");
         edges.ask(least);
         Due.is("19: the least WHOLE looks like NO", edges.cell(0, 0, 0), NO);
@@ -265,6 +266,9 @@ public final class AnswersTest {
         answers(ledger, "from t0 where c0 = 5 give most(c1), count, sum(c0 * 2)", of(Due.bits(1), 2, 20));
         answers(ledger, "from t0 where c0 is missing give count, sum(c0), least(c1), most(c0)", of(1, GAP, GAP, GAP));
         answers(ledger, "from t0 where c0 = 99 give count, sum(c0)", of(0, GAP));
+        answers(ledger, "from t0 give least(-c1), most(-c1), least(-c0), most(-c0)",
+                of(Due.bits(-1), Due.bits(2.5), -5, 3));
+        answers(ledger, "from t0 give least(c0 * 0.0), most(-c0 * 0.0)", of(0, Due.bits(-0.0)));
         answers(ledger, "from t0 give count top 0");
         fails(ledger, "from t0 give count, sum(1 / {c0 + 3})", 1, 2, 1);
         ElevatorLedger large = ledger(sorts(1), of(Long.MAX_VALUE - 1), of(1), of(-5), of(5), of(1));
@@ -360,6 +364,7 @@ public final class AnswersTest {
         looksAt(ledger, join + "c1 = 3 and d1 = 2 give d1", 11 + 12, 144);
         looksAt(ledger, join + "d1 = 2 and c1 = 3 give d1", 144, 144);
         looksAt(ledger, join + "c1 = d1 give d1", 144, 144);
+        looksAt(ledger, join + "c1 + d0 = 4 and d1 = 0 give d1", 144, 144);
         looksAt(ledger, join + "c1 = 3 or c1 = 4 give count", 144, 144);
         looksAt(ledger, join + "c1 = 3 and d1 = 2 or c1 = 4 give count", 144, 144);
         looksAt(ledger, join + "(c1 = 3 or c1 = 4) and d1 = 1 give d1", 10 + 24, 144);
@@ -406,6 +411,8 @@ public final class AnswersTest {
         Due.is("17: question 2", ledger.scan(2), -1);
         Due.is("18: BAD ones leave it", ledger.outcome(0, 0), 2);
         Due.is("18: BAD ones leave it", ledger.outcome(1, 0), FAILED);
+        Due.is("18: which 2 behind a scan", ledger.outcome(2, 0), -1);
+        Due.is("18: which -1 behind a scan", ledger.outcome(-1, 0), -1);
         Due.is("17: no FORM is asked by scan", ledger.form(ledger.about(failing, 1), 2), 0);
     }
 
@@ -449,6 +456,8 @@ public final class AnswersTest {
         ledger.scan(one);
         Due.is("19: of the scan", ledger.cell(1, 0, 0), 4);
         Due.is("20: it has one item", ledger.isMissing(1, 0, 1), -1);
+        Due.is("19: which 2", ledger.cell(2, 0, 0), NO);
+        Due.is("20: which -1", ledger.isMissing(-1, 0, 0), -1);
         ledger.put(0, 0, 0, 9);
         Due.is("19: the answer stays", ledger.cell(0, 0, 0), 4);
         ledger.ask(one);

@@ -150,7 +150,7 @@ public final class FormsTest {
 
     private static void spoilAgain() {
         ElevatorLedger ledger = ledger(2);
-        ledger.spoil(1, 9);
+        Due.is("22: nine", ledger.spoil(1, 9), 1);
         Due.is("22: in place of what was told", ledger.spoil(1, 1), 1);
         asks(ledger, 1, 1);
         Due.is("22: also while it is FALLEN", ledger.spoil(1, 1), 1);

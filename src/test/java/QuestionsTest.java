@@ -122,6 +122,25 @@ public final class QuestionsTest {
         Due.read(ledger, "from t0 where not (c0 = 1 or not c1 is missing) and {c0 + 1} * 2 > -c1 give {c0}");
         Due.read(ledger, "from t0 give - - c0, -{c0 - 1}, int(c0), whole(c2), real(c0), year(c6) top 5");
         Due.fault(ledger, 1, "from |c0 give c0");
+        Due.fault(ledger, 1, "from |give c0");
+        Due.fault(ledger, 1, "from t0 join |on c0 = d0 give c0");
+        Due.fault(ledger, 1, "from t0 join t1 |give c0");
+        Due.fault(ledger, 1, "from t0 join t1 on |= d0 give c0");
+        Due.fault(ledger, 1, "from t0 join t1 on |give c0");
+        Due.fault(ledger, 1, "from t0 join t1 on c0 |give c0");
+        Due.fault(ledger, 1, "from t0 join t1 on c0 |d0 give c0");
+        Due.fault(ledger, 1, "from t0 join t1 on c0 = |give c0");
+        Due.fault(ledger, 1, "from t0 where |give c0");
+        Due.fault(ledger, 1, "from t0 where not |give c0");
+        Due.fault(ledger, 1, "from t0 where c0 = |give c0");
+        Due.fault(ledger, 1, "from t0 where c0 = 1 and |give c0");
+        Due.fault(ledger, 1, "from t0 where c0 is |give c0");
+        Due.fault(ledger, 1, "from t0 group |give count");
+        Due.fault(ledger, 1, "from t0 group c0, |give count");
+        Due.fault(ledger, 1, "from t0 give look(|, c0)");
+        Due.fault(ledger, 1, "from t0 give c0 or |, c1");
+        Due.fault(ledger, 1, "from t0 give c0 order |down");
+        Due.fault(ledger, 1, "from t0 give |order 0");
         Due.fault(ledger, 1, "from t0 join t1 on |d0 = d0 give c0");
         Due.fault(ledger, 1, "from t0 join t1 on c0 |< d0 give c0");
         Due.fault(ledger, 1, "from t0 join t1 on c0 = |c0 give c0");
@@ -161,7 +180,13 @@ public final class QuestionsTest {
         ElevatorLedger ledger = ledger();
         Due.read(ledger, "from t0 give c0, c0, c0, c0, c0, c0");
         Due.fault(ledger, 4, "from t0 give c0, c0, c0, c0, c0, c0, |c0");
-        Due.fault(ledger, 4, "from t0 give c0, c0, c0, c0, c0, c0, |count");
+        String[] seventh = {"count", "sum(c0)", "least(c0)", "most(c0)", "1", "1.5", "''", "d0", "-1", "{1}", "int(1)",
+            "whole(1.5)", "real(1)", "year(1)", "month(1)", "weekday(1)", "look(0, 1)"};
+        for (String each : seventh) {
+            Due.fault(ledger, 4, "from t0 give c0, c0, c0, c0, c0, c0, |" + each);
+        }
+        Due.fault(ledger, 1, "from t0 give c0, c0, c0, c0, c0, c0, |not");
+        Due.fault(ledger, 1, "from t0 give c0, c0, c0, c0, c0, c0, |missing");
         Due.fault(ledger, 1, "from t0 give c0, c0, c0, c0, c0, c0, |t0");
         Due.read(ledger, "from t0 give " + "1+".repeat(11) + "1");
         Due.fault(ledger, 4, "from t0 give " + "1+".repeat(12) + "|1.5");
@@ -182,6 +207,8 @@ public final class QuestionsTest {
         Due.read(ledger, "from t0 join t1 on c0 = d0 group c0, d0 give sum(" + "c0+".repeat(39) + "c0)");
         Due.read(ledger, "from t0 give " + "{".repeat(12) + "c0" + "}".repeat(12));
         Due.fault(ledger, 4, "from t0 give " + "{".repeat(12) + "|{c0" + "}".repeat(13));
+        Due.fault(ledger, 1, "from t0 give " + "{".repeat(12) + "c0|)");
+        Due.fault(ledger, 1, "from t0 give " + eighty + "|)");
         Due.fault(ledger, 4, "from t0 give " + "-".repeat(12) + "|-c0");
         Due.fault(ledger, 4, "from t0 where " + "not ".repeat(12) + "|not c0 = 1 give c0");
         Due.fault(ledger, 4, "from t0 where " + "(".repeat(12) + "|(c0 = 1" + ")".repeat(13) + " give c0");
