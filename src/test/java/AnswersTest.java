@@ -1,10 +1,5 @@
 /** Promises 16 to 20: what ask() and scan() answer, and what is told of it. */
-public final class AnswersTest {
-    private static final long NO = ElevatorLedger.NO;
-    /** Stands for MISSING; NO cannot, as it is a WHOLE, and the bits of -0.0. */
-    private static final long GAP = 0x5151515151515151L;
-    private static final int FAILED = -5, TOO_MANY = -6, GONE = -7, NONE = -9;
-
+public final class AnswersTest extends LedgerTest {
     public static void main(String[] args) {
         pairs();
         conditions();
@@ -24,66 +19,6 @@ public final class AnswersTest {
         gone();
         cells();
         Due.end();
-    }
-
-    /** t0 with COLUMNS of these SORTS, and ROWS of these VALUES. */
-    private static ElevatorLedger ledger(int[] sorts, long[]... rows) {
-        ElevatorLedger ledger = new ElevatorLedger();
-        add(ledger, sorts, rows);
-        return ledger;
-    }
-
-    private static void add(ElevatorLedger ledger, int[] sorts, long[]... rows) {
-        int table = ledger.table();
-        for (int sort : sorts) {
-            ledger.column(table, sort);
-        }
-        for (long[] values : rows) {
-            int row = ledger.row(table);
-            for (int c = 0; c < values.length; c++) {
-                if (values[c] != GAP) {
-                    Due.is("put", ledger.put(table, row, c, values[c]), 1);
-                }
-            }
-        }
-    }
-
-    /** Asks and scans; the rows that are due. */
-    private static void answers(ElevatorLedger ledger, String text, long[]... rows) {
-        int q = Due.read(ledger, text);
-        for (int which = 0; which <= 1; which++) {
-            Due.is(text + ": rows", which == 0 ? ledger.ask(q) : ledger.scan(q), rows.length);
-            Due.is(text + ": outcome 0", ledger.outcome(which, 0), rows.length);
-            for (int r = 0; r < rows.length; r++) {
-                Due.is(text + ": items", ledger.outcome(which, 6), rows[r].length);
-                for (int c = 0; c < rows[r].length; c++) {
-                    String at = text + ": " + which + " at " + r + ", " + c;
-                    Due.is(at, ledger.cell(which, r, c), rows[r][c] == GAP ? NO : rows[r][c]);
-                    Due.is(at + " is MISSING", ledger.isMissing(which, r, c), rows[r][c] == GAP ? 1 : 0);
-                }
-            }
-        }
-    }
-
-    private static void fails(ElevatorLedger ledger, String text, int failure, int row, int item) {
-        int q = Due.read(ledger, text);
-        for (int which = 0; which <= 1; which++) {
-            Due.is(text, which == 0 ? ledger.ask(q) : ledger.scan(q), FAILED);
-            Due.is(text + ": outcome 0", ledger.outcome(which, 0), FAILED);
-            Due.is(text + ": FAILURE", ledger.outcome(which, 2), failure);
-            Due.is(text + ": ROW", ledger.outcome(which, 3), row);
-            Due.is(text + ": item", ledger.outcome(which, 4), item);
-            Due.is(text + ": no rows", ledger.cell(which, 0, 0), NO);
-            Due.is(text + ": no rows", ledger.isMissing(which, 0, 0), -1);
-        }
-    }
-
-    private static long[] of(long... values) {
-        return values;
-    }
-
-    private static int[] sorts(int... sorts) {
-        return sorts;
     }
 
     private static void pairs() {
@@ -347,14 +282,6 @@ public final class AnswersTest {
         answers(ledger, "from t0 give c0 top 0");
         answers(ledger, "from t0 give c0 top 2", of(3), of(GAP));
         answers(ledger, "from t0 where c1 = 0 give c1 * {c0 - 4} or missing, c0 order 0", of(Due.bits(-0.0), 3), of(GAP, GAP));
-    }
-
-    private static void looksAt(ElevatorLedger ledger, String text, int byCode, int byScan) {
-        int q = Due.read(ledger, text);
-        ledger.ask(q);
-        ledger.scan(q);
-        Due.is(text + ": VISITED by CODE", ledger.outcome(0, 5), byCode);
-        Due.is(text + ": VISITED by scan", ledger.outcome(1, 5), byScan);
     }
 
     private static void visited() {

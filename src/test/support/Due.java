@@ -1,9 +1,11 @@
 import java.nio.charset.StandardCharsets;
 
-/** What the tests share: answers that are due, and the telling of texts. */
+/** What the tests share: answers that are due, sentences of the document that they are due by, and the telling of texts. */
 final class Due {
     private static int wrong = 0;
     private static int right = 0;
+    private static int sentences = 0;
+    private static String sentence = "";
 
     private Due() {
     }
@@ -14,15 +16,31 @@ final class Due {
             return;
         }
         wrong++;
-        System.out.println(what + " answered " + got + ", due is " + want);
+        System.out.println(sentence + what + " answered " + got + ", due is " + want);
     }
 
     static void holds(String what, boolean truth) {
         is(what, truth ? 1 : 0, 1);
     }
 
+    /** The test of one sentence of the document; a test that looks at nothing is wrong. */
+    static void by(String told, Runnable test) {
+        int before = right + wrong;
+        sentences++;
+        sentence = "[" + told + "] ";
+        try {
+            test.run();
+        } catch (RuntimeException thrown) {
+            wrong++;
+            System.out.println(sentence + "threw " + thrown);
+        }
+        holds("its test looks at something", right + wrong > before);
+        sentence = "";
+    }
+
     static void end() {
-        System.out.println(right + " answers are as due, " + wrong + " are not");
+        String of = sentences > 0 ? " (" + sentences + " sentences)" : "";
+        System.out.println(right + " answers are as due, " + wrong + " are not" + of);
         System.exit(wrong == 0 && right > 0 ? 0 : 1);
     }
 
