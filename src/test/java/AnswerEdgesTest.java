@@ -1,3 +1,6 @@
+import java.time.LocalDate;
+import java.time.temporal.ChronoUnit;
+
 /**
  * Section 3: PAIRS, conditions, VALUES, FAILURES and the rows of an answer; each sentence that names an edge, on both
  * sides of it. Every question is asked and scanned.
@@ -28,10 +31,12 @@ public final class AnswerEdgesTest extends LedgerTest {
         Due.by("WHOLE: + - * and - ahead go round (64 bits)", AnswerEdgesTest::goRound);
         Due.by("/ and % as Java's", AnswerEdgesTest::asJavas);
         Due.by("REAL: by one rounding each", AnswerEdgesTest::roundings);
+        Due.by("the bits of the double, down to the least one", AnswerEdgesTest::leastReals);
         Due.by("- ahead turns the sign (of 0, too)", AnswerEdgesTest::turnsTheSign);
         Due.by("int: it, if it has 32 bits; NARROW", AnswerEdgesTest::ints);
         Due.by("whole: cut off", AnswerEdgesTest::cutOff);
         Due.by("year, month (1 .. 12), weekday (0 Monday)", AnswerEdgesTest::days);
+        Due.by("the DAY of that number (all months)", AnswerEdgesTest::allMonths);
         Due.by("NARROW: year, month, weekday of no DAY", AnswerEdgesTest::noDays);
         Due.by("2 INDEX: look at no place 0 .. 9", AnswerEdgesTest::places);
         Due.by("1 ZERO: / or % by 0 (also REAL 0)", AnswerEdgesTest::zero);
@@ -338,6 +343,23 @@ public final class AnswerEdgesTest extends LedgerTest {
         givesReal(1, "123456789.123 + 0.001", 123456789.123 + 0.001);
     }
 
+    private static void leastReals() {
+        // 2^-1054 by 17 divisions, the least double of full precision being 2^-1022, and the least one 2^-1074.
+        String tiny = "1.0" + "/c0".repeat(17);
+        double x = 0x1p-1054;
+        long v = 1L << 62;
+        givesReal(v, tiny, x);
+        givesReal(v, "-" + tiny + "*1.375", -x * 1.375);
+        givesReal(v, tiny + "*{0.5*0.5*0.5*0.5}*{0.5*0.5*0.5*0.5}", 0x1p-1062);
+        givesReal(v, tiny + "/1048576", Double.MIN_VALUE);
+        givesReal(v, tiny + "/1048576/2", 0.0);
+        givesReal(v, "-" + tiny + "/1048576/2", -0.0);
+        givesReal(v, "1.0" + "/c0".repeat(16) + "*2.0*{{32768*32768}*1.0}/2", 0x1p-962);
+        givesReal(v, "1.0" + "/c0".repeat(16) + "/1073741824", Double.MIN_NORMAL);
+        givesReal(v, "1.0" + "/c0".repeat(16) + "/1073741824*0.999", Double.MIN_NORMAL * 0.999);
+        givesReal(v, "1.0" + "/c0".repeat(16) + "/1073741824*1.001", Double.MIN_NORMAL * 1.001);
+    }
+
     private static void turnsTheSign() {
         givesReal(0, "-0.0", -0.0);
         givesReal(0, "- -0.0", 0.0);
@@ -405,6 +427,31 @@ public final class AnswerEdgesTest extends LedgerTest {
         day(-146098, 1599, 12, 4);
         day(-307, 1999, 2, 6);
         day(-306, 1999, 3, 0);
+    }
+
+    /** The first and the last day of each month that has DAYS. */
+    private static void allMonths() {
+        LocalDate zero = LocalDate.of(2000, 1, 1);
+        LocalDate first = LocalDate.of(904, 12, 1);
+        ElevatorLedger ledger = null;
+        for (int i = 0; first.isBefore(LocalDate.of(3095, 3, 1)); i++) {
+            if (i % 30 == 0) {
+                ledger = whole(0);
+                Due.read(ledger, "from t0 give year(c0), month(c0), weekday(c0)");
+            }
+            LocalDate next = first.plusMonths(1);
+            isDay(ledger, zero, first);
+            isDay(ledger, zero, next.minusDays(1));
+            first = next;
+        }
+    }
+
+    private static void isDay(ElevatorLedger ledger, LocalDate zero, LocalDate date) {
+        ledger.put(0, 0, 0, ChronoUnit.DAYS.between(zero, date));
+        ledger.ask(0);
+        Due.is("year of " + date, ledger.cell(0, 0, 0), date.getYear());
+        Due.is("month of " + date, ledger.cell(0, 0, 1), date.getMonthValue());
+        Due.is("weekday of " + date, ledger.cell(0, 0, 2), date.getDayOfWeek().ordinal());
     }
 
     private static void noDays() {
@@ -590,6 +637,15 @@ public final class AnswerEdgesTest extends LedgerTest {
         answers(two, "from t0 group c1, c1 give count", of(4), of(2));
         answers(two, "from t0 group c0 give c0, count, sum(c1)", of(1, 3, 1), of(GAP, 3, 1));
         answers(two, "from t0 where c0 = 9 group c0 give c0, count");
+        // COLUMNS of both TABLES, the groups beginning at other ROWS of the joined one.
+        ElevatorLedger both = ledger(sorts(0, 0), of(1, 5), of(1, 6), of(2, 5));
+        add(both, sorts(0, 0), of(2, 7), of(1, 8), of(1, 7), of(1, 8), of(1, GAP));
+        String join = "from t0 join t1 on c0 = d0 ";
+        answers(both, join + "group d1 give d1, count", of(8, 4), of(7, 3), of(GAP, 2));
+        answers(both, join + "group d0 give d0, count", of(1, 8), of(2, 1));
+        answers(both, join + "group d1, c1 give c1, d1, count", of(5, 8, 2), of(5, 7, 2), of(5, GAP, 1), of(6, 8, 2), of(6, 7, 1),
+                of(6, GAP, 1));
+        answers(both, join + "group c1, d0 give c1, d0, count, most(d1)", of(5, 1, 4, 8), of(6, 1, 4, 8), of(5, 2, 1, 7));
         ElevatorLedger edges = ledger(sorts(1), of(MOST), of(LEAST), of(0), of(LEAST));
         answers(edges, "from t0 group c0 give c0, count", of(MOST, 1), of(LEAST, 2), of(0, 1));
     }
@@ -624,6 +680,12 @@ public final class AnswerEdgesTest extends LedgerTest {
                 of(LEAST, -(1L << 40), 0), of(0, 0, Due.text("zzzzz")));
         answers(ledger, "from t0 give least(c0), most(c0), least(c1), most(c1), least(c2), most(c2)",
                 of(LEAST, MOST, Due.bits(-137438953472.0), Due.bits(137438953472.0), 0, Due.text("zzzzz")));
+        ElevatorLedger many = ledger(sorts(1, 2), of(5, 5), of(-3, -3), of(7, 7), of(-9, -9), of(2, 2), of(-8, -8), of(6, 6));
+        answers(many, "from t0 give least(c0), most(c0), least(c1), most(c1)", of(-9, 7, Due.bits(-1.125), Due.bits(0.875)));
+        answers(many, "from t0 give least(c0 + 100), most(c0 - 100), least(c1 + 100), most(c1 - 100)",
+                of(91, -93, Due.bits(98.875), Due.bits(-99.125)));
+        answers(many, "from t0 where c0 < 6 give most(c0), most(c1)", of(5, Due.bits(0.625)));
+        answers(many, "from t0 where c0 > -8 give least(c0), least(c1)", of(-3, Due.bits(-0.375)));
         // Of 0 and -0, which are equal, the first one.
         ElevatorLedger zeroes = ledger(sorts(2), of(8), of(-8));
         answers(zeroes, "from t0 give least(c0 * 0), most(c0 * 0), least(c0 * -0.0), most(c0 * -0.0)",

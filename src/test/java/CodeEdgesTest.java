@@ -10,6 +10,7 @@ public final class CodeEdgesTest extends LedgerTest {
         Due.by("ask() of a question whose FORM's CODE is not KEPT MAKES it", CodeEdgesTest::askMakes);
         Due.by("if that fails the FORM is FALLEN, and nothing is KEPT", CodeEdgesTest::aStartThatFails);
         Due.by("4 at most are", CodeEdgesTest::fourAreKept);
+        Due.by("4 at most are, of 24 FORMS", CodeEdgesTest::fourOf24);
         Due.by("ahead of a fifth the one whose FORM was asked longest ago is DROPPED", CodeEdgesTest::askedLongestAgo);
         Due.by("whose FORM was asked: by any of its questions, by no scan", CodeEdgesTest::whatIsAnAsk);
         Due.by("it was MADE before, and is MADE anew when it is asked", CodeEdgesTest::madeAnew);
@@ -108,6 +109,21 @@ public final class CodeEdgesTest extends LedgerTest {
             Due.is("DROPPED behind ask " + i, ledger.count(5), Math.max(i - 3, 0));
         }
         has(ledger, KEPT, 0, 0, 1, 1, 1, 1);
+    }
+
+    private static void fourOf24() {
+        ElevatorLedger ledger = forms(24);
+        for (int i = 0; i < 24; i++) {
+            asks(ledger, i);
+        }
+        Due.is("MADE", ledger.count(3), 24);
+        Due.is("KEPT", ledger.count(4), 4);
+        Due.is("DROPPED", ledger.count(5), 20);
+        Due.is("the last four", ledger.form(20, KEPT), 1);
+        Due.is("not the one ahead of them", ledger.form(19, KEPT), 0);
+        Due.is("none differs", ledger.audit(), 0);
+        Due.is("MADE", ledger.count(3), 48);
+        Due.is("the last question's FORM", ledger.about(23, 1), 23);
     }
 
     private static void askedLongestAgo() {
@@ -326,6 +342,14 @@ public final class CodeEdgesTest extends LedgerTest {
         looks("(c1 = 9 or c1 = 8) or c1 = 7", 9);
         looks("(c1 = 9 or c1 = 8) and c1 = 7", 1 + 1 + 3);
         looks("c1 = 9 and c1 = 8 and (c1 = 7) or 1 = 2", 9);
+        // Of that question's where, whatever was read before.
+        ElevatorLedger ledger = nine();
+        String join = "from t0 join t0 on c0 = d0 ";
+        looksAt(ledger, join + "where c1 = 9 or c1 = 8 give count", 9, 9);
+        looksAt(ledger, join + "where c1 = 9 give count", 1 + 1 + 3, 9);
+        looksAt(ledger, join + "where c1 = 9 and d1 = 1 give count", 1 + 1 + 3, 9);
+        looksAt(ledger, join + "where 1 = 1 and c1 = 9 give count", 9, 9);
+        looksAt(ledger, join + "where c1 = 8 give count, count", 1 + 1 + 3, 9);
     }
 
     private static void upToTheFirstAnd() {
@@ -409,6 +433,13 @@ public final class CodeEdgesTest extends LedgerTest {
         }
         has(ledger, MADE, 0, 0, 1, 1);
         Due.is("one that was never asked", ledger.ask(0), GONE);
+        ElevatorLedger fallen = forms(2);
+        Due.read(fallen, "from t0 give c1");
+        fallen.drop(0, 1);
+        fallen.spoil(1, 1);
+        fallsBack(fallen, 1, 1);
+        Due.is("behind one that FELL BACK", fallen.ask(2), GONE);
+        Due.is("it did not", fallen.outcome(0, 1), 0);
         has(ledger, MADE, 0, 0, 1, 1);
     }
 

@@ -31,6 +31,8 @@ public final class TokenEdgesTest extends LedgerTest {
         Due.by("the highest one of the n lowest first", TokenEdgesTest::highestOfTheLowestFirst);
         Due.by("Promise 10: BAD; FULL: above 240", TokenEdgesTest::sayIsRefused);
         Due.by("Promise 11: is empty then (also by a FAULT, but not by FULL)", TokenEdgesTest::emptyThen);
+        Due.by("Promise 11: nothing of an earlier text is left", TokenEdgesTest::nothingIsLeft);
+        Due.by("Promise 11: nothing of a FAULT is left", TokenEdgesTest::nothingOfAFaultIsLeft);
         Due.by("Promise 11: -100 less the place of the first FAULT", TokenEdgesTest::firstAndLastPlace);
         Due.by("Promise 12: 0: none; FULL leaves it", TokenEdgesTest::faultOfTheLatest);
         Due.end();
@@ -490,6 +492,45 @@ public final class TokenEdgesTest extends LedgerTest {
         Due.is("not by FULL", ledger.say(' ', 1), 8);
         Due.is("FULL", ledger.question(), FULL);
         Due.is("not by FULL", ledger.say(' ', 1), 9);
+    }
+
+    /** Behind a longer text each beginning of it is read as on a new object. */
+    private static void nothingIsLeft() {
+        String[] texts = {"from t0 join t1 on c0=d0 where c5='abc' and c0<=12 or c0<>1.25 give c0,d12",
+            "from t0 where c0>=123456 group c0,c1 give sum(c0),count order 10 down top 12"};
+        for (String text : texts) {
+            for (int length = 0; length < text.length(); length++) {
+                ElevatorLedger used = ledger();
+                Due.question(used, text);
+                ElevatorLedger fresh = ledger();
+                String begin = text.substring(0, length);
+                int due = Due.question(fresh, begin);
+                Due.is("question() of \"" + begin + "\"", Due.question(used, begin), due);
+                Due.is("its FAULT", used.fault(), fresh.fault());
+            }
+        }
+    }
+
+    private static void nothingOfAFaultIsLeft() {
+        String[] faults = {"from t0 give 1+2+3+4+5+6+7+8+9+10+11+12 give", "from t0 where not (not (not (c0 = {- int(c0 give",
+            "from t0 where c0 = 1 or c0 = 2 give c9", "from t0 join t1 on c0 = d0 group d0, c0 give c5 order 0 down top 0",
+            "from t0 give c0, c0, c0, c0, c0, c0, c0", "from t0 give c0+c0*{c0+c0*{c0+c0*{c0+c0*{c0+c0*{c0+c0*{-c5}}}}}}"};
+        for (String fault : faults) {
+            ElevatorLedger ledger = ledger();
+            for (int i = 0; i < 12; i++) {
+                Due.holds("a FAULT", Due.question(ledger, fault) <= -100);
+            }
+            ledger.row(0);
+            String twelve = "{".repeat(12) + "7" + "}".repeat(12);
+            int q = Due.read(ledger, "from t0 give " + twelve + ", 8 + {c0 + {c0 + {c0 + 9}}}, 10, 11, 12, 13");
+            Due.is("CONSTANTS", ledger.about(q, 0), 7);
+            Due.is("the first", ledger.constantOf(q, 0, 1), 7);
+            Due.is("the last", ledger.constantOf(q, 6, 1), 13);
+            Due.is("NODES", ledger.form(0, 6), 14);
+            Due.is("rows", ledger.ask(q), 1);
+            Due.is("a VALUE", ledger.cell(0, 0, 0), 7);
+            Due.is("another one", ledger.cell(0, 0, 5), 13);
+        }
     }
 
     private static void firstAndLastPlace() {
