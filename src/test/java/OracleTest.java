@@ -1,9 +1,12 @@
 import java.util.Random;
 
-/** Runs of calls, always the same ones, each answer held against the Oracle's. */
+/**
+ * Runs of calls, always the same ones, each answer held against the Oracle's. A run ends with its 512th call: what later
+ * ones answer is free.
+ */
 public final class OracleTest {
-    private static final int RUNS = 400;
-    private static final int CALLS = 900;
+    private static final int RUNS = 3000;
+    private static final int CALLS = 512;
     private static int shown = 0;
 
     private final Random random;
@@ -12,9 +15,13 @@ public final class OracleTest {
     private final Texts texts;
     private final StringBuilder log = new StringBuilder();
     private boolean isRight = true;
+    private int calls = 0;
+    /** Of short texts and few VALUES, so that 512 calls let CODE be DROPPED, FALLEN and MADE anew. */
+    private final boolean isOfCode;
 
     private OracleTest(long seed) {
         random = new Random(seed);
+        isOfCode = seed % 3 == 0;
         texts = new Texts(random, oracle);
     }
 
@@ -24,8 +31,12 @@ public final class OracleTest {
         for (int i = 0; i < runs; i++) {
             OracleTest run = new OracleTest(seed + i);
             run.build();
-            for (int k = 0; k < CALLS && run.isRight; k++) {
-                run.call();
+            while (run.calls < CALLS && run.isRight) {
+                if (run.isOfCode) {
+                    run.callOfCode();
+                } else {
+                    run.call();
+                }
             }
             Due.holds("run " + (seed + i), run.isRight);
         }
@@ -33,6 +44,10 @@ public final class OracleTest {
     }
 
     private void same(String call, long got, long want) {
+        calls++;
+        if (calls > CALLS) {
+            return;
+        }
         log.append(call).append(' ').append(want).append('\n');
         if (got != want && isRight) {
             isRight = false;
@@ -58,21 +73,22 @@ public final class OracleTest {
         int tables = 1 + upTo(2);
         for (int t = 0; t < tables; t++) {
             same("table()", ledger.table(), oracle.table());
-            int columns = 1 + upTo(chance(10) ? 9 : 6);
+            boolean isLong = chance(8);
+            int columns = isLong ? 1 + upTo(2) : 1 + upTo(chance(10) ? 9 : 4);
             for (int c = 0; c < columns; c++) {
                 column(t, c == 0 ? 0 : upTo(6));
             }
-            int rows = chance(20) ? 38 + upTo(4) : upTo(12);
+            int rows = isOfCode ? upTo(2) : isLong ? 38 + upTo(4) : upTo(6);
             for (int r = 0; r < rows; r++) {
                 same("row(" + t + ")", ledger.row(t), oracle.row(t));
                 for (int c = 0; c < columns; c++) {
-                    if (chance(85)) {
+                    if (chance(isLong ? 60 : 85)) {
                         put(t, r, c);
                     }
                 }
             }
         }
-        for (int i = 0; i < 12; i++) {
+        for (int i = 0; i < 5; i++) {
             look(upTo(2), upTo(9));
         }
     }
@@ -148,7 +164,7 @@ public final class OracleTest {
         } else if (kind == 94 && chance(50)) {
             int c = upTo(7);
             same("drop(" + t + ", " + c + ")", ledger.drop(t, c), oracle.drop(t, c));
-            for (int i = -1; i < 6; i++) {
+            for (int i = -1; i < 4; i++) {
                 same("retired(" + i + ")", ledger.retired(i), oracle.retired(i));
             }
         } else {
@@ -157,9 +173,40 @@ public final class OracleTest {
         }
     }
 
+    private void callOfCode() {
+        int f = oneBeyond(oracle.formList.size());
+        int kind = upTo(99);
+        if (kind < 15 || oracle.questions.size() < 4) {
+            question();
+        } else if (kind < 70) {
+            ask();
+        } else if (kind < 82) {
+            int n = upTo(chance(90) ? 2 : 10);
+            same("spoil(" + f + ", " + n + ")", ledger.spoil(f, n), oracle.spoil(f, n));
+        } else if (kind < 90) {
+            forms(f);
+        } else if (kind < 97) {
+            int what = upTo(7);
+            same("count(" + what + ")", ledger.count(what), oracle.count(what));
+        } else if (kind < 99) {
+            same("audit()", ledger.audit(), oracle.audit());
+        } else {
+            int t = upTo(2);
+            int c = upTo(3);
+            same("drop(" + t + ", " + c + ")", ledger.drop(t, c), oracle.drop(t, c));
+            same("retired(0)", ledger.retired(0), oracle.retired(0));
+        }
+    }
+
+    private String shortText() {
+        String column = "c" + upTo(2);
+        return "from t" + upTo(1) + (chance(30) ? " where " + column + " = " + column : "") + " give "
+                + (chance(50) ? column : "count") + (chance(60) ? " top " + upTo(3) : "");
+    }
+
     private void ask() {
         int q = oracle.questions.isEmpty() ? 0 : upTo(oracle.questions.size() - 1);
-        answer(q, chance(70));
+        answer(q, chance(isOfCode ? 95 : 70));
     }
 
     private void change(int t, int q) {
@@ -190,10 +237,10 @@ public final class OracleTest {
     }
 
     private void question() {
-        String text = texts.next();
+        String text = isOfCode ? shortText() : texts.next();
         log.append("the text \"").append(text.replace("\n", "\\n")).append("\"\n");
         for (int i = 0; i < text.length();) {
-            int n = Math.min(text.length() - i, 1 + upTo(7));
+            int n = Math.min(text.length() - i, isOfCode ? 8 : 1 + upTo(7));
             long bytes = random.nextLong();
             for (int k = 0; k < n; k++) {
                 bytes = bytes << 8 | text.charAt(i + k);
@@ -208,7 +255,7 @@ public final class OracleTest {
         same("question()", ledger.question(), oracle.question());
         same("fault()", ledger.fault(), oracle.fault);
         int q = oracle.questions.size() - 1;
-        for (int what = -1; what < 4; what++) {
+        for (int what = chance(10) ? -1 : 0; what < 3; what++) {
             same("about(" + q + ", " + what + ")", ledger.about(q, what), oracle.about(q, what));
         }
         if (q >= 0) {
@@ -230,13 +277,21 @@ public final class OracleTest {
     }
 
     private void replies(int which) {
-        for (int what = -1; what < 8; what++) {
-            same("outcome(" + which + ", " + what + ")", ledger.outcome(which, what), oracle.outcome(which, what));
+        int from = chance(10) ? -1 : 0;
+        int to = chance(10) ? 8 : 7;
+        for (int what = from; what < to; what++) {
+            if (chance(isOfCode ? 30 : 60)) {
+                same("outcome(" + which + ", " + what + ")", ledger.outcome(which, what), oracle.outcome(which, what));
+            }
         }
         int rows = oracle.replies[which] == null ? 0 : oracle.replies[which].rows.size();
         int items = oracle.replies[which] == null ? 0 : oracle.replies[which].items;
-        for (int r = -1; r <= rows; r++) {
-            for (int c = -1; c <= items; c++) {
+        int shownRows = chance(90) ? Math.min(rows, 3) : rows + 1;
+        for (int r = chance(5) ? -1 : 0; r < shownRows; r++) {
+            for (int c = chance(5) ? -1 : 0; c <= items; c++) {
+                if (chance(40)) {
+                    continue;
+                }
                 same("cell(" + which + ", " + r + ", " + c + ")", ledger.cell(which, r, c), oracle.cell(which, r, c));
                 same("isMissing(" + which + ", " + r + ", " + c + ")", ledger.isMissing(which, r, c),
                         oracle.isMissing(which, r, c));
@@ -256,7 +311,11 @@ public final class OracleTest {
     }
 
     private void forms(int f) {
-        for (int what = -1; what < 8; what++) {
+        int to = chance(10) ? 8 : 7;
+        for (int what = chance(10) ? -1 : 0; what < to; what++) {
+            if (chance(40)) {
+                continue;
+            }
             same("form(" + f + ", " + what + ")", ledger.form(f, what), oracle.form(f, what));
         }
     }

@@ -204,6 +204,11 @@ public final class QuestionsTest {
         Due.fault(ledger, 4, "from t0 where " + "c0+".repeat(39) + "c0 is missing |and c0 = 1 give c0");
         Due.fault(ledger, 4, "from t0 where " + "c0+".repeat(39) + "c0 is missing |or c0 = 1 give c0");
         Due.fault(ledger, 4, "from t0 where " + "c0+".repeat(38) + "c0 is missing and c0 |= 1 give c0");
+        inOneAnother(eighty);
+    }
+
+    private static void inOneAnother(String eighty) {
+        ElevatorLedger ledger = ledger();
         Due.read(ledger, "from t0 join t1 on c0 = d0 group c0, d0 give sum(" + "c0+".repeat(39) + "c0)");
         Due.read(ledger, "from t0 give " + "{".repeat(12) + "c0" + "}".repeat(12));
         Due.fault(ledger, 4, "from t0 give " + "{".repeat(12) + "|{c0" + "}".repeat(13));
