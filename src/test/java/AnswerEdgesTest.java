@@ -35,6 +35,7 @@ public final class AnswerEdgesTest extends LedgerTest {
         Due.by("- ahead turns the sign (of 0, too)", AnswerEdgesTest::turnsTheSign);
         Due.by("int: it, if it has 32 bits; NARROW", AnswerEdgesTest::ints);
         Due.by("whole: cut off", AnswerEdgesTest::cutOff);
+        Due.by("real: the nearest", AnswerEdgesTest::nearest);
         Due.by("year, month (1 .. 12), weekday (0 Monday)", AnswerEdgesTest::days);
         Due.by("the DAY of that number (all months)", AnswerEdgesTest::allMonths);
         Due.by("NARROW: year, month, weekday of no DAY", AnswerEdgesTest::noDays);
@@ -397,6 +398,14 @@ public final class AnswerEdgesTest extends LedgerTest {
         gives(-E15, "whole(c0 * 1.0)", -E15);
         gives(E15 - 1, "whole(c0 + 0.875)", E15 - 1);
         gives(4294967296L, "whole(c0 * 1.5)", 6442450944L);
+    }
+
+    private static void nearest() {
+        long[] wholes = {0, 1, -1, 123456789012345L, E15 - 1, 1 - E15, E15, -E15, 1L << 49, Integer.MIN_VALUE};
+        for (long v : wholes) {
+            givesReal(v, "real(c0)", (double) v);
+            gives(v, "whole(real(c0))", v);
+        }
     }
 
     private static void day(long day, int year, int month, int weekday) {
