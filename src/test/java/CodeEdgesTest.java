@@ -498,6 +498,16 @@ public final class CodeEdgesTest extends LedgerTest {
         ledger.scan(-1);
         Due.is("BAD ones but", ledger.outcome(0, 0), 2);
         Due.is("BAD ones but", ledger.outcome(1, 0), 0);
+        int failing = Due.read(ledger, "from t0 give c0, 1 / {c0 - 3}");
+        asks(ledger, failing);
+        ledger.scan(failing);
+        ledger.ask(99);
+        ledger.scan(99);
+        int[] due = {FAILED, 0, ZERO, 0, 1, 1, 2};
+        for (int what = 0; what <= 6; what++) {
+            Due.is("BAD ones but, outcome(0, " + what + ")", ledger.outcome(0, what), due[what]);
+            Due.is("BAD ones but, outcome(1, " + what + ")", ledger.outcome(1, what), due[what]);
+        }
     }
 
     private static void outcomes() {
