@@ -10,7 +10,7 @@ public final class FaultEdgesTest extends LedgerTest {
 
     public static void main(String[] args) {
         Due.by("question: from .. top (what may be left out)", FaultEdgesTest::whatMayBeLeftOut);
-        Due.by("question: from .. top (the end)", FaultEdgesTest::theEndTooSoon);
+        Due.by("question: from .. top (each TOKEN, and the end, at its place)", FaultEdgesTest::tokensInOrder);
         Due.by("TABLE: a NAME with t; COLUMN: one with c, d", FaultEdgesTest::namesByTheirLetters);
         Due.by("group COLUMN [ , COLUMN ]", FaultEdgesTest::oneOrTwoGroups);
         Due.by("item: count, or sum ( sum ) .., or sum [ or missing ]", FaultEdgesTest::itemsOfTheGrammar);
@@ -94,20 +94,47 @@ public final class FaultEdgesTest extends LedgerTest {
         faults(1, "from t0 where c0 = 1 |where c0 = 1 give count");
     }
 
-    private static void theEndTooSoon() {
-        String text = "from t0 join t1 on c0 = d0 where c0 = 1 group c0 , c1 give count , count order 0 down top 1";
-        String[] tokens = text.split(" ");
+    /**
+     * Each beginning of a text, and behind it another ending: behind so many TOKENS as are told it can stand, behind all
+     * others its first TOKEN (or the end) is the FAULT.
+     */
+    private static void endings(String text, String ending, String canStandBehind) {
         StringBuilder begin = new StringBuilder();
-        // What a question can end with: count, count; 0, down behind order; 1 behind top.
-        String ends = " 18 20 22 23 25 ";
-        for (int i = 0; i < tokens.length; i++) {
-            begin.append(i == 0 ? "" : " ").append(tokens[i]);
-            if (ends.contains(" " + (i + 1) + " ")) {
-                reads(begin.toString());
+        String[] tokens = text.split(" ");
+        for (int i = 0; i <= tokens.length; i++) {
+            if ((" " + canStandBehind + " ").contains(" " + i + " ")) {
+                reads(begin + ending);
             } else {
-                faults(1, begin + "|");
+                faults(1, begin + "|" + ending);
             }
+            begin.append(i < tokens.length ? tokens[i] + " " : "");
         }
+    }
+
+    private static void tokensInOrder() {
+        String text = "from t0 join t1 on c0 = d0 where c0 = 1 group c0 , c1 give count , count order 0 down top 1";
+        endings(text, "", "18 20 22 23 25");
+        endings(text, "give count", "2 8 12 14 16");
+        endings(text, "where c0 = 1 give count", "2 8");
+        endings(text, "group c0 give count", "2 8 12");
+        endings(text, "join t1 on c0 = d0 give count", "2");
+        endings(text, "order 0", "18 20");
+        endings(text, "top 1", "18 20 22 23");
+        endings(text, "from t0 give count", "0");
+        endings(text, "or c0 = 1 give count", "12");
+        endings(text, "and c0 = 1 give count", "12");
+        String deep = "from t0 where not ( c0 + 1 = - { c1 } or int ( c1 ) is missing ) give c0 * look ( 0 , c0 ) or missing , c1";
+        endings(deep, "", "23 30 32 34");
+        endings(deep, "give c0", "2 21");
+        endings(deep, "group c0 give count", "2 21");
+        endings(deep, "order 0", "23 30 32 34");
+        String calls = "from t0 where c0 = int ( look ( 0 , c1 ) ) and c0 = 1";
+        endings(calls, "give c0", "2 14 18");
+        endings(calls, "and c0 = 1 give c0", "14 18");
+        endings("from t0 give c0 or missing", ", c0", "4 6");
+        endings("from t0 give - c0 / 2", ", c0", "5 7");
+        endings("from t0 give sum ( c0 )", ", count", "7");
+        endings("from t0 give look ( 0", ", c0 )", "6");
     }
 
     private static void namesByTheirLetters() {
