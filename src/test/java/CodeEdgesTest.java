@@ -124,6 +124,10 @@ public final class CodeEdgesTest extends LedgerTest {
         Due.is("none differs", ledger.audit(), 0);
         Due.is("MADE", ledger.count(3), 48);
         Due.is("the last question's FORM", ledger.about(23, 1), 23);
+        Due.is("the last FORM", ledger.form(23, KEPT), 1);
+        Due.is("behind the last FORM", ledger.form(24, KEPT), BAD);
+        Due.is("spoil of the last FORM", ledger.spoil(23, 1), 0);
+        Due.is("spoil behind the last FORM", ledger.spoil(24, 1), BAD);
     }
 
     private static void askedLongestAgo() {

@@ -30,6 +30,7 @@ public final class FaultEdgesTest extends LedgerTest {
         Due.by("without group either all are count, sum, least, most, or none", FaultEdgesTest::itemsOfOneKind);
         Due.by("order's NUMBER is an item's (from 0 on)", FaultEdgesTest::orderNumbers);
         Due.by("1 a TOKEN that cannot stand there (also what is none; the end)", FaultEdgesTest::cannotStand);
+        Due.by("1 a TOKEN that cannot stand there (each TOKEN)", FaultEdgesTest::eachTokenThatCannotStand);
         Due.by("4 a TOKEN that could, but ..", FaultEdgesTest::couldStandBut);
         Due.by("Both are looked for first, in all the text", FaultEdgesTest::lookedForFirst);
         Due.by("2 a TABLE, COLUMN that is not there, or gone", FaultEdgesTest::notThere);
@@ -441,6 +442,75 @@ public final class FaultEdgesTest extends LedgerTest {
         // The first of two.
         faults(1, "from t0 give |# #");
         faults(1, "from |give #");
+    }
+
+    /** Of all TOKENS just these can stand behind that beginning; the others are the FAULT. */
+    private static void canStand(String begin, String these) {
+        String all = "from join on where group give order top down count sum least most or and not is missing int whole real "
+                + "year month weekday look c0 d0 t0 1 1.5 'a' + - * / % ( ) , = <> < <= > >= { }";
+        for (String token : all.split(" ")) {
+            boolean can = (" " + these + " ").contains(" " + token + " ");
+            ElevatorLedger ledger = ledger();
+            int answer = Due.question(ledger, begin + " " + token + " ( c0 ) give c0");
+            boolean isFault = answer == -101 - begin.length() && ledger.fault() == 1;
+            Due.holds("\"" + token + "\" behind \"" + begin + "\", whether it can stand there: " + can, isFault != can);
+        }
+    }
+
+    private static void eachTokenThatCannotStand() {
+        String factors = "int whole real year month weekday look c0 d0 1 1.5 'a' - {";
+        String signs = "+ - * / %";
+        String comparing = "= <> < <= > >= is";
+        canStand("", "from");
+        canStand("from", "t0");
+        canStand("from t0", "join where group give");
+        canStand("from t0 join", "t0");
+        canStand("from t0 join t1", "on");
+        canStand("from t0 join t1 on", "c0");
+        canStand("from t0 join t1 on c0", "=");
+        canStand("from t0 join t1 on c0 =", "d0");
+        canStand("from t0 join t1 on c0 = d0", "where group give");
+        canStand("from t0 where", factors + " not (");
+        canStand("from t0 where not", factors + " not (");
+        canStand("from t0 where (", factors + " not (");
+        canStand("from t0 where c0", signs + " " + comparing);
+        canStand("from t0 where c0 =", factors);
+        canStand("from t0 where c0 = 1", signs + " and or group give");
+        canStand("from t0 where ( c0 = 1", signs + " and or )");
+        canStand("from t0 where c0 is", "missing");
+        canStand("from t0 where c0 is missing", "and or group give");
+        canStand("from t0 where c0 = 1 and", factors + " not (");
+        canStand("from t0 where c0 = 1 or", factors + " not (");
+        canStand("from t0 group", "c0 d0");
+        canStand("from t0 group c0", ", give");
+        canStand("from t0 group c0 ,", "c0 d0");
+        canStand("from t0 group c0 , c1", "give");
+        canStand("from t0 give", factors + " count sum least most");
+        canStand("from t0 give c0", signs + " , or order top");
+        canStand("from t0 give c0 or", "missing");
+        canStand("from t0 give c0 or missing", ", order top");
+        canStand("from t0 give c0 ,", factors + " count sum least most");
+        canStand("from t0 give count", ", order top");
+        canStand("from t0 give sum", "(");
+        canStand("from t0 give sum (", factors);
+        canStand("from t0 give sum ( c0", signs + " )");
+        canStand("from t0 give sum ( c0 )", ", order top");
+        canStand("from t0 give -", factors);
+        canStand("from t0 give {", factors);
+        canStand("from t0 give { c0", signs + " }");
+        canStand("from t0 give c0 +", factors);
+        canStand("from t0 give c0 *", factors);
+        canStand("from t0 give int", "(");
+        canStand("from t0 give int (", factors);
+        canStand("from t0 give int ( c0", signs + " )");
+        canStand("from t0 give look (", "1");
+        canStand("from t0 give look ( 1", ",");
+        canStand("from t0 give look ( 1 ,", factors);
+        canStand("from t0 give c0 order", "1");
+        canStand("from t0 give c0 order 0", "down top");
+        canStand("from t0 give c0 order 0 down", "top");
+        canStand("from t0 give c0 top", "1");
+        canStand("from t0 give c0 top 1", "");
     }
 
     private static void couldStandBut() {
