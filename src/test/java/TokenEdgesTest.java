@@ -7,6 +7,7 @@ public final class TokenEdgesTest extends LedgerTest {
         Due.by("2 QUESTIONS (24 at most", TokenEdgesTest::questions24);
         Due.by("those that are read without a FAULT", TokenEdgesTest::faultsAreNoQuestions);
         Due.by("texts of at most 240 bytes", TokenEdgesTest::bytes240);
+        Due.by("texts of at most 240 bytes, each of them a TOKEN", TokenEdgesTest::tokens240);
         Due.by("TOKENS, as long as can be", TokenEdgesTest::asLongAsCanBe);
         Due.by("blanks (32, 10) between", TokenEdgesTest::blanks);
         Due.by("WORDS of letters a to z", TokenEdgesTest::words);
@@ -91,6 +92,16 @@ public final class TokenEdgesTest extends LedgerTest {
         Due.is("its end", ledger.question(), -340);
     }
 
+    private static void tokens240() {
+        for (char sign : "+-*/%(),{}=<>".toCharArray()) {
+            ElevatorLedger ledger = ledger();
+            Due.is("240 of " + sign, Due.question(ledger, String.valueOf(sign).repeat(240)), -100);
+            Due.is("its FAULT", ledger.fault(), 1);
+        }
+        faults(1, "from t0 give c0,|" + ",".repeat(224));
+        faults(4, "from t0 give " + "-".repeat(12) + "|" + "-".repeat(215));
+    }
+
     private static void asLongAsCanBe() {
         reads("from t0 where c0<=1 give c0");
         reads("from t0 where c0>=1 give c0");
@@ -103,6 +114,10 @@ public final class TokenEdgesTest extends LedgerTest {
         faults(1, "from t0 where c0>|<1 give c0");
         faults(1, "from t0 where c0<>|=1 give c0");
         faults(1, "from t0 where c0<=|>1 give c0");
+        faults(1, "from t0 where c0<=|");
+        faults(1, "from t0 where c0>=|");
+        faults(1, "from t0 where c0<>|");
+        faults(1, "from t0 where c0<|");
         faults(1, "from t0 give |countc0");
         faults(1, "from t0 give 12 |3");
         ElevatorLedger ledger = ledger();
@@ -512,7 +527,7 @@ public final class TokenEdgesTest extends LedgerTest {
     }
 
     private static void nothingOfAFaultIsLeft() {
-        String[] faults = {"from t0 give 1+2+3+4+5+6+7+8+9+10+11+12 give", "from t0 where not (not (not (c0 = {- int(c0 give",
+        String[] faults = {"from t9 join t8 on c0 = d0 give count", "from t0 give 1+2+3+4+5+6+7+8+9+10+11+12 give", "from t0 where not (not (not (c0 = {- int(c0 give",
             "from t0 where c0 = 1 or c0 = 2 give c9", "from t0 join t1 on c0 = d0 group d0, c0 give c5 order 0 down top 0",
             "from t0 give c0, c0, c0, c0, c0, c0, c0", "from t0 give c0+c0*{c0+c0*{c0+c0*{c0+c0*{c0+c0*{c0+c0*{-c5}}}}}}"};
         for (String fault : faults) {
