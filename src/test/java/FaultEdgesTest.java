@@ -50,21 +50,6 @@ public final class FaultEdgesTest extends LedgerTest {
         Due.end();
     }
 
-    /** t0, t1: a COLUMN of each SORT, which bears its number; t2 is not there. */
-    private static ElevatorLedger ledger() {
-        ElevatorLedger ledger = ledger(sorts(0, 1, 2, 3, 4, 5, 6));
-        add(ledger, sorts(0, 1, 2, 3, 4, 5, 6));
-        return ledger;
-    }
-
-    private static void reads(String text) {
-        Due.read(ledger(), text);
-    }
-
-    private static void faults(int fault, String marked) {
-        Due.fault(ledger(), fault, marked);
-    }
-
     private static void whatMayBeLeftOut() {
         String[] joins = {"", "join t1 on c0 = d0 "};
         String[] wheres = {"", "where c0 = 1 "};
@@ -450,7 +435,7 @@ public final class FaultEdgesTest extends LedgerTest {
                 + "year month weekday look c0 d0 t0 1 1.5 'a' + - * / % ( ) , = <> < <= > >= { }";
         for (String token : all.split(" ")) {
             boolean can = (" " + these + " ").contains(" " + token + " ");
-            ElevatorLedger ledger = ledger();
+            ElevatorLedger ledger = ofAllSorts();
             int answer = Due.question(ledger, begin + " " + token + " ( c0 ) give c0");
             boolean isFault = answer == -101 - begin.length() && ledger.fault() == 1;
             Due.holds("\"" + token + "\" behind \"" + begin + "\", whether it can stand there: " + can, isFault != can);
@@ -567,14 +552,14 @@ public final class FaultEdgesTest extends LedgerTest {
         faults(2, "from t0 give |c7");
         faults(2, "from t0 join t1 on c0 = d0 give |d7");
         reads("from t0 join t1 on c6 = d6 where c6 = 1 and d6 = 1 group c6, d6 give c6, d6");
-        ElevatorLedger ledger = ledger();
+        ElevatorLedger ledger = ofAllSorts();
         ledger.drop(1, 6);
         Due.read(ledger, "from t0 give c6");
         Due.fault(ledger, 2, "from t1 give |c6");
         Due.fault(ledger, 2, "from t0 join t1 on c0 = d0 give |d6");
         Due.fault(ledger, 2, "from t0 join t1 on c6 = |d6 give count");
         Due.fault(ledger, 2, "from t1 group |c6 give count");
-        ElevatorLedger third = ledger();
+        ElevatorLedger third = ofAllSorts();
         Due.fault(third, 2, "from |t2 give count");
         third.table();
         Due.read(third, "from t2 give count");
@@ -651,7 +636,7 @@ public final class FaultEdgesTest extends LedgerTest {
     }
 
     private static void constantsInOrder() {
-        ElevatorLedger ledger = ledger();
+        ElevatorLedger ledger = ofAllSorts();
         int q = Due.read(ledger, "from t0 where 1 < c0 and 'b' = c5 give 2.5 * 3, look(1, 4 + 5) - 6, 'c' order 0 top 7");
         long[] sorts = {0, 2, 1, 0, 0, 0, 0, 2};
         long[] values = {1, Due.text("b"), 2500, 3, 4, 5, 6, Due.text("c")};
@@ -669,7 +654,7 @@ public final class FaultEdgesTest extends LedgerTest {
     }
 
     private static void alike(boolean are, String text, String other) {
-        ElevatorLedger ledger = ledger();
+        ElevatorLedger ledger = ofAllSorts();
         Due.read(ledger, text);
         int q = Due.read(ledger, other);
         Due.is("the FORM of \"" + other + "\" beside \"" + text + "\"", ledger.about(q, 1), are ? 0 : 1);
@@ -707,7 +692,7 @@ public final class FaultEdgesTest extends LedgerTest {
     }
 
     private static void formsAsTheyCome() {
-        ElevatorLedger ledger = ledger();
+        ElevatorLedger ledger = ofAllSorts();
         String[] texts = {"from t0 give c0", "from t0 give c1", "from t0 give c0", "from t0 give c2", "from t0 give c1"};
         int[] forms = {0, 1, 0, 2, 1};
         for (int i = 0; i < texts.length; i++) {
@@ -718,7 +703,7 @@ public final class FaultEdgesTest extends LedgerTest {
     }
 
     private static void constantOfIsRefused() {
-        ElevatorLedger ledger = ledger();
+        ElevatorLedger ledger = ofAllSorts();
         int q = Due.read(ledger, "from t0 give 5, 6");
         Due.is("what 0", ledger.constantOf(q, 1, 0), 0);
         Due.is("what 1", ledger.constantOf(q, 1, 1), 6);
@@ -750,7 +735,7 @@ public final class FaultEdgesTest extends LedgerTest {
     }
 
     private static void constantRanges() {
-        ElevatorLedger ledger = ledger();
+        ElevatorLedger ledger = ofAllSorts();
         int q = Due.read(ledger, "from t0 give 1, 2.5, 'a'");
         long[][] allowed = {of(Long.MIN_VALUE, Long.MAX_VALUE, 0), of(-(1L << 40), 1L << 40, 0),
             of(0, Due.text("zzzzz"), Due.text("b"))};
@@ -771,7 +756,7 @@ public final class FaultEdgesTest extends LedgerTest {
     }
 
     private static void constantIsRefused() {
-        ElevatorLedger ledger = ledger();
+        ElevatorLedger ledger = ofAllSorts();
         int q = Due.read(ledger, "from t0 give 5, 6");
         int other = Due.read(ledger, "from t0 give 7, 8");
         Due.is("the last CONSTANT", ledger.constant(q, 1, 9), 1);
@@ -786,7 +771,7 @@ public final class FaultEdgesTest extends LedgerTest {
     }
 
     private static void about() {
-        ElevatorLedger ledger = ledger();
+        ElevatorLedger ledger = ofAllSorts();
         int q = Due.read(ledger, "from t0 give c1");
         int other = Due.read(ledger, "from t0 give c0 + 1+1+1+1+1+1+1+1+1+1+1+1");
         Due.is("no CONSTANTS", ledger.about(q, 0), 0);

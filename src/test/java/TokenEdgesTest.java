@@ -39,23 +39,8 @@ public final class TokenEdgesTest extends LedgerTest {
         Due.end();
     }
 
-    /** t0, t1: a COLUMN of each SORT, which bears its number; t2 is not there. */
-    private static ElevatorLedger ledger() {
-        ElevatorLedger ledger = ledger(sorts(0, 1, 2, 3, 4, 5, 6));
-        add(ledger, sorts(0, 1, 2, 3, 4, 5, 6));
-        return ledger;
-    }
-
-    private static void reads(String text) {
-        Due.read(ledger(), text);
-    }
-
-    private static void faults(int fault, String marked) {
-        Due.fault(ledger(), fault, marked);
-    }
-
     private static void questions24() {
-        ElevatorLedger ledger = ledger();
+        ElevatorLedger ledger = ofAllSorts();
         for (int i = 0; i < 24; i++) {
             Due.is("question " + i, Due.question(ledger, "from t0 give count top " + i), i);
         }
@@ -69,7 +54,7 @@ public final class TokenEdgesTest extends LedgerTest {
     }
 
     private static void faultsAreNoQuestions() {
-        ElevatorLedger ledger = ledger();
+        ElevatorLedger ledger = ofAllSorts();
         for (int i = 0; i < 24; i++) {
             Due.is("a FAULT", Due.question(ledger, "from"), -104);
         }
@@ -82,7 +67,7 @@ public final class TokenEdgesTest extends LedgerTest {
 
     private static void bytes240() {
         String text = "from t0 give count";
-        ElevatorLedger ledger = ledger();
+        ElevatorLedger ledger = ofAllSorts();
         Due.is("240 bytes", Due.question(ledger, text + " ".repeat(240 - text.length())), 0);
         Due.is("240 bytes, the last ones being told", Due.question(ledger, " ".repeat(240 - text.length()) + text), 1);
         for (int i = 0; i < 30; i++) {
@@ -94,7 +79,7 @@ public final class TokenEdgesTest extends LedgerTest {
 
     private static void tokens240() {
         for (char sign : "+-*/%(),{}=<>".toCharArray()) {
-            ElevatorLedger ledger = ledger();
+            ElevatorLedger ledger = ofAllSorts();
             Due.is("240 of " + sign, Due.question(ledger, String.valueOf(sign).repeat(240)), -100);
             Due.is("its FAULT", ledger.fault(), 1);
         }
@@ -120,7 +105,7 @@ public final class TokenEdgesTest extends LedgerTest {
         faults(1, "from t0 where c0<|");
         faults(1, "from t0 give |countc0");
         faults(1, "from t0 give 12 |3");
-        ElevatorLedger ledger = ledger();
+        ElevatorLedger ledger = ofAllSorts();
         int q = Due.read(ledger, "from t0 give 123,1.25");
         Due.is("all its digits", ledger.constantOf(q, 0, 1), 123);
         Due.is("all its digits", ledger.constantOf(q, 1, 1), 1250);
@@ -132,7 +117,7 @@ public final class TokenEdgesTest extends LedgerTest {
         reads("from t0give c0+1,c0");
         for (int b = 0; b < 256; b++) {
             if (b != 32 && b != 10) {
-                ElevatorLedger ledger = ledger();
+                ElevatorLedger ledger = ofAllSorts();
                 Due.say(ledger, "from");
                 ledger.say(b, 1);
                 Due.say(ledger, "t0 give c0");
@@ -195,7 +180,7 @@ public final class TokenEdgesTest extends LedgerTest {
     }
 
     private static void numbers() {
-        ElevatorLedger ledger = ledger();
+        ElevatorLedger ledger = ofAllSorts();
         int q = Due.read(ledger, "from t0 give 0, 9, 999999999999999, 000000000000001, 100000000000000");
         long[] due = {0, 9, 999999999999999L, 1, 100000000000000L};
         for (int i = 0; i < due.length; i++) {
@@ -213,7 +198,7 @@ public final class TokenEdgesTest extends LedgerTest {
     }
 
     private static void reals() {
-        ElevatorLedger ledger = ledger();
+        ElevatorLedger ledger = ofAllSorts();
         int q = Due.read(ledger, "from t0 give 0.0, 999999999.999, 000000001.001, 1.5, 2.25, 0.001");
         long[] due = {0, 999999999999L, 1001, 1500, 2250, 1};
         for (int i = 0; i < due.length; i++) {
@@ -240,7 +225,7 @@ public final class TokenEdgesTest extends LedgerTest {
     }
 
     private static void texts() {
-        ElevatorLedger ledger = ledger();
+        ElevatorLedger ledger = ofAllSorts();
         int q = Due.read(ledger, "from t0 give '', 'a', 'z', 'abcde', 'zzzzz'");
         long[] due = {0, Due.text("a"), Due.text("z"), Due.text("abcde"), Due.text("zzzzz")};
         for (int i = 0; i < due.length; i++) {
@@ -275,7 +260,7 @@ public final class TokenEdgesTest extends LedgerTest {
         for (char c : none.toCharArray()) {
             faults(1, "from t0 give c0|" + c + "c0");
         }
-        Due.is("byte 124, which is the tests' mark", Due.question(ledger(), "from t0 give c0|c0"), -115);
+        Due.is("byte 124, which is the tests' mark", Due.question(ofAllSorts(), "from t0 give c0|c0"), -115);
         String fitting = "+-*/%,";
         for (char c : fitting.toCharArray()) {
             reads("from t0 give c0" + c + "c0");
@@ -299,7 +284,7 @@ public final class TokenEdgesTest extends LedgerTest {
     }
 
     private static void constants12() {
-        ElevatorLedger ledger = ledger();
+        ElevatorLedger ledger = ofAllSorts();
         int q = Due.read(ledger, "from t0 where 1=1 and 2.0=2 and ''='a' give 7,8+9,1.5,'b',11 order 0 top 99");
         Due.is("twelve", ledger.about(q, 0), 12);
         Due.is("the last", ledger.constantOf(q, 11, 1), 11);
@@ -322,7 +307,7 @@ public final class TokenEdgesTest extends LedgerTest {
 
     /** What is marked is a NODE, with so many ahead of it in that text, and so many in all of it. */
     private static void node(String begin, String marked, int ahead, int all) {
-        ElevatorLedger ledger = ledger();
+        ElevatorLedger ledger = ofAllSorts();
         String text = marked.replace("|", "");
         int q = Due.read(ledger, "from t0 " + begin + sum(80 - all) + text);
         Due.is("NODES with " + text, ledger.form(ledger.about(q, 1), 6), 80);
@@ -368,7 +353,7 @@ public final class TokenEdgesTest extends LedgerTest {
     }
 
     private static void whatIsNoNode() {
-        ElevatorLedger ledger = ledger();
+        ElevatorLedger ledger = ofAllSorts();
         String[] texts = {"from t0 give " + sum(78) + ",look(2,c0)",
             "from t0 give " + sum(80) + " order 0 down top 5", "from t0 join t1 on c0=d0 give " + sum(80),
             "from t0 group c0,c1 give least(" + sum(79) + ")", "from t0 give {{" + sum(80) + "}} or missing",
@@ -437,7 +422,7 @@ public final class TokenEdgesTest extends LedgerTest {
     }
 
     private static void oneToEightBytes() {
-        ElevatorLedger ledger = ledger();
+        ElevatorLedger ledger = ofAllSorts();
         int length = 0;
         for (int n = 1; n <= 8; n++) {
             length += n;
@@ -451,7 +436,7 @@ public final class TokenEdgesTest extends LedgerTest {
     }
 
     private static void highestOfTheLowestFirst() {
-        ElevatorLedger ledger = ledger();
+        ElevatorLedger ledger = ofAllSorts();
         // The bytes above the n lowest do not come: here they are all ones.
         ledger.say(0xffffffff_66726f6dL, 4);
         ledger.say(0xffffffff_ff207430L, 3);
@@ -468,7 +453,7 @@ public final class TokenEdgesTest extends LedgerTest {
 
     private static void sayIsRefused() {
         for (int n = 1; n <= 8; n++) {
-            ElevatorLedger ledger = ledger();
+            ElevatorLedger ledger = ofAllSorts();
             for (int i = 0; i < 29; i++) {
                 ledger.say(0x2020202020202020L, 8);
             }
@@ -478,7 +463,7 @@ public final class TokenEdgesTest extends LedgerTest {
             Due.is("BAD ahead of FULL", ledger.say(0, 9), BAD);
             Due.is("BAD ahead of FULL", ledger.say(0, 0), BAD);
         }
-        ElevatorLedger ledger = ledger();
+        ElevatorLedger ledger = ofAllSorts();
         for (int i = 0; i < 29; i++) {
             ledger.say(0x2020202020202020L, 8);
         }
@@ -489,7 +474,7 @@ public final class TokenEdgesTest extends LedgerTest {
     }
 
     private static void emptyThen() {
-        ElevatorLedger ledger = ledger();
+        ElevatorLedger ledger = ofAllSorts();
         Due.read(ledger, "from t0 give c0");
         Due.is("by a question", ledger.say(' ', 1), 1);
         int[] faults = {1, 2, 3, 4};
@@ -515,9 +500,9 @@ public final class TokenEdgesTest extends LedgerTest {
             "from t0 where c0>=123456 group c0,c1 give sum(c0),count order 10 down top 12"};
         for (String text : texts) {
             for (int length = 0; length < text.length(); length++) {
-                ElevatorLedger used = ledger();
+                ElevatorLedger used = ofAllSorts();
                 Due.question(used, text);
-                ElevatorLedger fresh = ledger();
+                ElevatorLedger fresh = ofAllSorts();
                 String begin = text.substring(0, length);
                 int due = Due.question(fresh, begin);
                 Due.is("question() of \"" + begin + "\"", Due.question(used, begin), due);
@@ -531,7 +516,7 @@ public final class TokenEdgesTest extends LedgerTest {
             "from t0 where c0 = 1 or c0 = 2 give c9", "from t0 join t1 on c0 = d0 group d0, c0 give c5 order 0 down top 0",
             "from t0 give c0, c0, c0, c0, c0, c0, c0", "from t0 give c0+c0*{c0+c0*{c0+c0*{c0+c0*{c0+c0*{c0+c0*{-c5}}}}}}"};
         for (String fault : faults) {
-            ElevatorLedger ledger = ledger();
+            ElevatorLedger ledger = ofAllSorts();
             for (int i = 0; i < 12; i++) {
                 Due.holds("a FAULT", Due.question(ledger, fault) <= -100);
             }
@@ -549,7 +534,7 @@ public final class TokenEdgesTest extends LedgerTest {
     }
 
     private static void firstAndLastPlace() {
-        ElevatorLedger ledger = ledger();
+        ElevatorLedger ledger = ofAllSorts();
         Due.is("the end of no text", ledger.question(), -100);
         Due.is("its FAULT", ledger.fault(), 1);
         Due.is("the first byte", Due.question(ledger, "give"), -100);
@@ -560,7 +545,7 @@ public final class TokenEdgesTest extends LedgerTest {
     }
 
     private static void faultOfTheLatest() {
-        ElevatorLedger ledger = ledger();
+        ElevatorLedger ledger = ofAllSorts();
         Due.is("none yet", ledger.fault(), 0);
         Due.question(ledger, "from t0 give c9");
         Due.is("a FAULT", ledger.fault(), 2);

@@ -38,6 +38,23 @@ abstract class LedgerTest {
         }
     }
 
+    /** t0, t1: a COLUMN of each SORT, which bears its number; t2 is not there. */
+    static ElevatorLedger ofAllSorts() {
+        ElevatorLedger ledger = ledger(sorts(0, 1, 2, 3, 4, 5, 6));
+        add(ledger, sorts(0, 1, 2, 3, 4, 5, 6));
+        return ledger;
+    }
+
+    /** A text that has no FAULT, told to a new object. */
+    static void reads(String text) {
+        Due.read(ofAllSorts(), text);
+    }
+
+    /** A text that has that FAULT where the mark | stands, told to a new object. */
+    static void faults(int fault, String marked) {
+        Due.fault(ofAllSorts(), fault, marked);
+    }
+
     private static int answer(ElevatorLedger ledger, int which, int question) {
         return which == 0 ? ledger.ask(question) : ledger.scan(question);
     }
